@@ -49,7 +49,7 @@ public final class ColdPlunge {
     private int lastFault;
     private int faultPlace;
     private Told spareText = new Told();
-    private final Reader reader = new Reader();
+    private final Reader reader = new Reader(spareText);
     private final Bath bath = new Bath(new Told());
     private final History history = new History();
     private final Companies companies = new Companies();
@@ -740,12 +740,16 @@ public final class ColdPlunge {
     /** Reads a text token by token, so that the first FAULT from the left is the first that it meets. */
     private static final class Reader {
         private final Tokens tokens = new Tokens();
-        private Told told = new Told();
+        private Told told;
         private boolean headTold;
         private int met;
         private int value;
         private int found;
         int place;
+
+        Reader(Told into) {
+            told = into;
+        }
 
         int readText(byte[] bytes, int n, Told into) {
             told = into;

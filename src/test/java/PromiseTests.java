@@ -187,7 +187,8 @@ public final class PromiseTests {
         faultAt(THREE + ";unsure z y by 1;knows y ", "z by 1", 3);
         faultAt(THREE + ";unsure z y by 1;unsure z ", "y by 1", 3);
         faultAt(THREE + ";felt 3,x,y,", "x", 3);
-        faultAt(THREE + ";felt 3,x,x", "", 3, 1);
+        fault(THREE + ";felt 3,x,x", 3, THREE.length() + 10);
+        faultAt(THREE + ";bather u plain bears 0;bather v plain bears 0;bather w plain bears 0;felt 0,x,y,z,u,v,w,", "y", 3);
         faultAt(THREE + ";", "plunge warm 0", 3);
         faultAt(HEAD + ";", "plunge", 3);
         Check.due("felt again by another felt", Check.tell(new ColdPlunge(), THREE + ";felt 0,x;felt 0,x"), 3);
@@ -199,10 +200,6 @@ public final class PromiseTests {
         fault(HEAD, 6, HEAD.length());
         fault(HEAD + "  ", 6, HEAD.length() + 2);
         fault(HEAD + ";felt 3", 6, HEAD.length() + 7);
-    }
-
-    private static void faultAt(String text, String rest, int fault, int back) {
-        fault(text + rest, fault, text.length() - back);
     }
 
     private static void faultsOfNumbers() {
@@ -269,6 +266,11 @@ public final class PromiseTests {
         Check.due("abe bears 8", x.bather(0, 6), 1);
         Check.due("dan doesn't", x.bather(3, 6), 0);
         Check.due("eve is out", x.bather(4, 6), 0);
+        Check.due("dan is in", x.bather(3, 3), 1);
+        Check.due("bea is out", x.bather(1, 3), 0);
+        x.get(3);
+        x.come(1);
+        Check.due("bea bears 13", x.bather(1, 6), 1);
         Check.refused(x, "bather(5, 0)", x.bather(5, 0), -1, 1);
         Check.refused(x, "bather(-1, 0)", x.bather(-1, 0), -1, 1);
         Check.refused(x, "bather(0, 7)", x.bather(0, 7), -1, 1);
@@ -366,6 +368,7 @@ public final class PromiseTests {
         x = Check.of(THREE + ";knows y z by 2;knows z x by 2;foes x y by 9");
         Check.due("closest() of like ones", x.closest(), 2);
         Check.due("loneliest() of like ones", x.loneliest(), 0);
+        Check.due("closest() by 1", Check.of(THREE + ";knows y z by 1").closest(), 12);
         x = Check.of(THREE + ";knows x y by 9;knows x z by 9");
         Check.due("loneliest() is the first of 1 and 2", x.loneliest(), 1);
     }
@@ -482,6 +485,12 @@ public final class PromiseTests {
         x.come(1);
         Check.due("toCall(), all in", x.toCall(), -2);
         Check.due("toSend(): 10, 1, 9, 12", x.toSend(), 3);
+        ColdPlunge y = Check.of(HEAD + ";bather x plain bears 0;bather y plain bears 0;bather z plain bears 0;foes x y by 3");
+        y.come(1);
+        Check.due("toCall(): all 0", y.toCall(), 0);
+        y.come(0);
+        y.come(2);
+        Check.due("toSend(): 0, 0, 0", y.toSend(), 0);
     }
 
     private static void baths() {
@@ -505,6 +514,8 @@ public final class PromiseTests {
         for (int b = 0; b < 4; b++) {
             Check.due("bathOf(" + b + ")", z.bathOf(b), b % 2);
         }
+        Check.due("baths() of one", Check.of(THREE).baths(), 1);
+        Check.due("bathOf() of one", Check.of(THREE).bathOf(2), 0);
         ColdPlunge w = Check.of("plunge warm 1 chill 9 ice 0 visits 0;bather a plain bears 1;bather b plain bears 1;bather c plain bears 1;"
             + "bather d plain bears 1;bather e plain bears 1;bather f plain bears 1");
         Check.due("baths() of six alone", w.baths(), 6);
@@ -558,8 +569,41 @@ public final class PromiseTests {
         Check.due("canMeet(0, 2), foes", y.canMeet(0, 2), 0);
         Check.due("meetings()", y.meetings(), 0);
         Check.due("circles() of strangers", Check.of(THREE).circles(), 3);
+        rowsOfIntroductions();
         Check.part("promise 58");
         introduce(x, y);
+    }
+
+    private static void rowsOfIntroductions() {
+        Check.part("promises 34, 35, rows");
+        String head = "plunge warm 5 chill 2 ice 0 visits 0;bather p plain bears 0;bather q plain bears 6;bather r plain bears 6;bather s plain bears 0;";
+        // p r by s, then q r by p; or q s by p, then q r by s
+        Check.due("firstMeeting(6)", Check.of(head + "knows p s by 1;knows r s by 1;knows p q by 1").firstMeeting(6), 2);
+        // foes can't be introduced, so p r is none, and q s by p is the first
+        Check.due("firstMeeting(6), foes", Check.of(head + "knows p s by 1;knows r s by 1;knows p q by 1;foes p r by 1").firstMeeting(6), 13);
+        ColdPlunge x = Check.of(head + "knows s q by 1;knows s r by 1");
+        Check.due("firstMeeting(6), neighbours by number", x.firstMeeting(6), 12);
+        Check.due("fewest(6)", x.fewest(6), 1);
+        Check.due("meetings()", x.meetings(), 1);
+        ColdPlunge y = Check.of("plunge warm 9 chill 2 ice 0 visits 0;bather p plain bears 4;bather q plain bears 12;bather r plain bears 4;bather s plain bears 4;"
+            + "knows s p by 1;knows s q by 1;knows s r by 1");
+        // all: 9 and 3 less 6 is 6; each introduction 3 more
+        Check.due("fewest(15)", y.fewest(15), 2);
+        Check.due("firstMeeting(15)", y.firstMeeting(15), 1);
+        y.introduce(0, 1);
+        Check.due("fewest(15)", y.fewest(15), 1);
+        y.introduce(0, 2);
+        Check.due("fewest(15)", y.fewest(15), 0);
+        Check.due("firstMeeting(15)", y.firstMeeting(15), -2);
+        // three are needed, three there are; a need more, and they aren't enough
+        Check.due("fewest(15)", Check.of("plunge warm 9 chill 2 ice 0 visits 0;bather p plain bears 4;bather q plain bears 15;bather r plain bears 4;"
+            + "bather s plain bears 4;knows s p by 1;knows s q by 1;knows s r by 1").fewest(15), 3);
+        Check.due("fewest(15)", Check.of("plunge warm 9 chill 2 ice 0 visits 0;bather p plain bears 4;bather q plain bears 16;bather r plain bears 4;"
+            + "bather s plain bears 4;knows s p by 1;knows s q by 1;knows s r by 1").fewest(15), -2);
+        // below 0 first: 1 less 9 and 10 more is 2
+        ColdPlunge z = Check.of("plunge warm 1 chill 9 ice 0 visits 0;bather p plain bears 1;bather q plain bears 0;bather r plain bears 0;knows p r by 1;knows q r by 1");
+        Check.due("fewest(3)", z.fewest(3), 1);
+        Check.due("fewest(3), who need nothing", Check.of("plunge warm 1 chill 9 ice 0 visits 0;bather p plain bears 0;bather q plain bears 0").fewest(3), 0);
     }
 
     private static void introduce(ColdPlunge x, ColdPlunge four) {
@@ -617,6 +661,17 @@ public final class PromiseTests {
         Check.due("ask() without unsure ones", z.ask(), -2);
         Check.due("askLeaves() without unsure ones", z.askLeaves(), -2);
         Check.due("chills() of nothing felt", Check.of(THREE).chills(), 1023);
+        ColdPlunge w = Check.of("plunge warm 10 chill 3 ice 0 visits 0;bather a plain bears 0;bather b plain bears 0;unsure a b by 2;felt 7,a,b");
+        Check.due("fits() by strangers", w.fits(), 1);
+        Check.due("fitAt(0)", w.fitAt(0), 0);
+        Check.due("could()", w.could(), 0);
+        Check.due("surely()", w.surely(), 0);
+        Check.due("ask()", w.ask(), 0);
+        Check.due("askLeaves()", w.askLeaves(), 1);
+        ColdPlunge v = Check.of("plunge warm 10 chill 3 ice 0 visits 0;bather a plain bears 0;bather b plain bears 0;unsure a b by 2;felt 8,a,b");
+        Check.due("ask() without fits", v.ask(), -2);
+        Check.due("askLeaves() without fits", v.askLeaves(), -2);
+        Check.due("surely() without a set", v.surely(), 0);
         Check.due("judge() of nothing felt", Check.of(THREE).judge(), -2);
     }
 
@@ -733,6 +788,7 @@ public final class PromiseTests {
         ratio(never, 0, 0, 1);
         ratio(never, 1, 1, 1);
         Check.due("mean()", never.mean(false), 5);
+        Check.due("icy(): nobody comes, and that is icy", Check.of(ROW.replace("visits 25", "visits 0").replace("ice 0", "ice 6")).icy(false), 1);
         Check.due("icy()", never.icy(false), 0);
         Check.due("icy() lower", never.icy(true), 1);
         // visits 100: five know each other, ten are strangers
@@ -844,6 +900,15 @@ public final class PromiseTests {
         Check.due("undo() of coming", x.undo(), true);
         Check.due("company()", x.company(), 0);
         Check.refused(x, "undo() of nothing", x.undo(), 6);
+        x.come(0);
+        x.minute();
+        x.come(0);
+        Check.due("size(10)", x.size(10), 1);
+        x.undo();
+        Check.due("size(10): the minute stays", x.size(10), 1);
+        x.undo();
+        x.undo();
+        Check.due("size(10)", x.size(10), 0);
         for (int i = 0; i < 10; i++) {
             x.come(1);
             x.get(1);

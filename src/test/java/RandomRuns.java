@@ -17,7 +17,7 @@ public final class RandomRuns {
     }
 
     public static void main(String[] args) {
-        int runs = args.length > 0 ? Integer.parseInt(args[0]) : 400;
+        int runs = args.length > 0 ? Integer.parseInt(args[0]) : 1200;
         for (int seed = 0; seed < runs; seed++) {
             Check.part("run " + seed);
             new RandomRuns(seed).run();
@@ -183,7 +183,7 @@ public final class RandomRuns {
             tellBoth(text());
         }
         for (int i = 0; i < 100; i++) {
-            int method = chance(30) ? 45 + below(8) : below(METHODS);
+            int method = chance(30) ? 45 + below(8) : chance(8) ? 28 + below(2) : below(METHODS);
             call(method);
             if (chance(1)) {
                 tellBoth(chance(50) ? text() : broken(text()));
