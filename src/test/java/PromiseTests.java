@@ -103,6 +103,11 @@ public final class PromiseTests {
         Check.due("none of the old foes", x.size(6), 0);
         Check.feedText(x, FOUR + "  zzz");
         Check.due("the first bytes alone", x.plunge(FOUR.length()), 4);
+        Check.feedText(x, THREE + ";felt 12345,xyz");
+        Check.due("a whole cut short", x.plunge(THREE.length() + 8), 3);
+        Check.due("judge() of 12", x.judge(), 0);
+        Check.feedText(x, THREE + ";felt 0,xyz");
+        Check.due("a word cut short", x.plunge(THREE.length() + 9), 3);
         Check.due("six in", Check.of(ROW).size(4), 6);
         Check.due("blanks mean nothing", Check.tell(x, "  plunge warm60chill9 ice  30visits100 ;bather plain plain bears 99; bather by hardy bears07 ;"
             + "bather warm tender bears 0;knows plain by by 9;felt 060 , warm,by "), 3);
@@ -178,6 +183,7 @@ public final class PromiseTests {
         faultAt(THREE + ";unsure ", "xy x by 3", 2);
         faultAt(THREE + ";felt 3,x,", "w", 2);
         faultAt(HEAD + ";felt 3,", "x;bather x plain bears 0", 2);
+        faultAt(THREE + ";bather ", "x plain bears 0", 3);
         faultAt(THREE + ";bather ", "y plain bears 0", 3);
         faultAt(THREE + ";knows x ", "x by 3", 3);
         faultAt(THREE + ";unsure z ", "z by 3", 3);
