@@ -13,6 +13,10 @@ final class Check {
         part = name;
     }
 
+    static int count() {
+        return passed + failed;
+    }
+
     static void due(String call, long got, long want) {
         if (got == want) {
             passed++;
