@@ -3,6 +3,8 @@ final class EdgesOfIntroductions {
     /** Each knows the next; the first and the last bear 6, and have it with one whom they know. */
     private static final String ROW = Texts.of(Texts.head(5, 1, 0, 0), "p6 p0 p0 p0 p0 p6", "ab1 bc1 cd1 de1 ef1");
 
+    private static final String ROW_AND_ENDS = "ab1 bc1 cd1 de1 df1 fa1";
+
     private EdgesOfIntroductions() {
     }
 
@@ -24,6 +26,17 @@ final class EdgesOfIntroductions {
     /** a knows all others, who are strangers; b bears so much, c and d nothing. bcd have 0: 6 less than 0, each introduction 3 more. */
     private static ColdPlunge star(int bears) {
         return of(0, 2, "p0 p" + bears + " p0 p0", "ab9 ac9 ad9");
+    }
+
+    /** Two strangers who have 4 of 5, and the first of the others knows both. */
+    private static ColdPlunge knownToThird(int b, int other) {
+        int third = b > 0 ? 0 : other > 1 ? 1 : 2;
+        StringBuilder bathers = new StringBuilder();
+        for (int i = 0; i < 6; i++) {
+            bathers.append(i > 0 ? " " : "").append(i == b || i == other ? "p5" : "p0");
+        }
+        String ties = (char) ('a' + third) + "" + (char) ('a' + b) + "1 " + (char) ('a' + third) + (char) ('a' + other) + "1";
+        return of(5, 1, bathers.toString(), ties);
     }
 
     private static void introductionOfTerms() {
@@ -76,6 +89,18 @@ final class EdgesOfIntroductions {
         row.introduce(0, 2);
         Check.due("af: three more", row.fewest(33), 3);
         Check.due("nobody is introduced by asking", row.size(9), 1);
+        // an introduction of others brings nothing but the next one: ad have 4, and 6 behind two
+        for (int bears = 4; bears <= 9; bears++) {
+            ColdPlunge four = of(5, 1, "p" + bears + " p0 p0 p0", "ab1 bc1 cd1");
+            Check.due("ad by " + bears, four.fewest(9), bears <= 4 ? 0 : bears <= 6 ? 2 : -2);
+            Check.due("abd by " + bears, four.fewest(11), bears <= 4 ? 0 : bears <= 6 ? 1 : bears <= 8 ? 2 : -2);
+        }
+        // one alone is warmed by none, whoever he is
+        for (int b = 0; b < 6; b++) {
+            String bathers = "p0 ".repeat(b) + "p6" + " p0".repeat(5 - b);
+            Check.due(b + " alone", of(5, 1, bathers, ROW_AND_ENDS).fewest(1 << b), -2);
+            Check.due(b + " alone", of(6, 1, bathers, ROW_AND_ENDS).fewest(1 << b), 0);
+        }
         int[] fewest = {0, 3, 3, 3, -2};
         for (int bears = 0; bears <= 4; bears++) {
             Check.due("bcd by " + bears, star(bears).fewest(14), fewest[bears]);
@@ -162,6 +187,15 @@ final class EdgesOfIntroductions {
         Check.due("ac", row.firstMeeting(5), 2);
         Check.due("ae", row.firstMeeting(17), 2);
         Check.due("df", row.firstMeeting(40), 35);
+        // each two whom a third one knows
+        for (int b = 0; b < 6; b++) {
+            for (int other = b + 1; other < 6; other++) {
+                ColdPlunge two = knownToThird(b, other);
+                int set = 1 << b | 1 << other;
+                Check.due("fewest(" + set + ")", two.fewest(set), 1);
+                Check.due("firstMeeting(" + set + ")", two.firstMeeting(set), 10 * b + other);
+            }
+        }
         // c f: by c e, c f or by d f, c f
         Check.due("cf", row.firstMeeting(36), 24);
         // three of bcd: b c, b d, c d

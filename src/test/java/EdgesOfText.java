@@ -272,6 +272,12 @@ final class EdgesOfText {
 
         Sentences.ofTerms("I", "; each told once, ahead of its use.");
         good(HEAD + ";bather a plain bears 0;bather aa plain bears 0;bather aaa plain bears 0", 3);
+        for (char letter = 'a'; letter <= 'z'; letter++) {
+            String one = String.valueOf(letter);
+            String two = ";bather " + one + " plain bears 0;bather " + one.repeat(2) + " plain bears 0";
+            good(HEAD + two + ";bather a" + one.repeat(7) + " plain bears 0;knows " + one.repeat(2) + " " + one + " by 1", 3);
+            badAt(HEAD + two + ";bather ", one + " plain bears 0", 3);
+        }
         badAt(HEAD + ";bather a plain bears 0;bather ", "a plain bears 0", 3);
         badAt(HEAD + ";bather a plain bears 0;knows a ", "b by 1;bather b plain bears 0", 2);
         good(HEAD + ";bather a plain bears 0;bather b plain bears 0;knows a b by 1", 2);
@@ -515,6 +521,21 @@ final class EdgesOfText {
         Check.due("bather(0, 1)", x.bather(0, 1), 9);
         Check.feedText(x, HEAD + ";bather a plain bears 999");
         Check.due("plunge(n + 1)", x.plunge(HEAD.length() + 25), -1);
+        Check.feedText(x, HEAD + ";bather abc plain bears 0;felt 0,abcd");
+        Check.due("a NAME ends with the n-th byte", x.plunge(HEAD.length() + 36), 1);
+        Check.feedText(x, HEAD + ";bather abc plain bears 0;felt 0,abcd");
+        Check.due("a letter less", x.plunge(HEAD.length() + 35), -1);
+        Check.due("fault()", x.fault(), 2);
+        Check.feedText(x, HEAD + ";bather abc plain bears 0;felt 0,abcd");
+        Check.due("a letter more", x.plunge(HEAD.length() + 37), -1);
+        Check.due("fault()", x.fault(), 2);
+        Check.due("where()", x.where(), HEAD.length() + 33);
+        // the last of 900 bytes is a letter, a digit or a sign
+        for (String last : new String[] {";felt 0,a", ";felt 0"}) {
+            Check.due("900 bytes", Check.tell(x, " ".repeat(900 - (THREE + last).length()) + THREE + last), 3);
+        }
+        Check.due("900 bytes", Check.tell(x, " ".repeat(899 - THREE.length()) + THREE + ";"), -1);
+        Check.due("where()", x.where(), 900);
         // what an earlier, longer text left on the tape doesn't come back
         Check.tell(x, THREE + ";felt 0,a,b,c");
         Check.due("plunge of a shorter one", Check.tell(x, THREE), 3);
