@@ -43,6 +43,18 @@ final class EdgesOfFelt {
         for (int i = 0; i < felt.length; i++) {
             fitting(of(10, 1, "p0 p0 p0", "ab?3", felt[i]), sets[i]);
         }
+        // each two of six, told either way round
+        for (char one = 'a'; one <= 'f'; one++) {
+            for (char other = 'a'; other <= 'f'; other++) {
+                if (one != other) {
+                    String two = "" + one + other;
+                    fitting(of(10, 1, "p0 p0 p0 p0 p0 p0", two + "?3", "13" + two), 1);
+                    fitting(of(10, 1, "p0 p0 p0 p0 p0 p0", two + "?3", "9" + two), 0);
+                    String others = "abcdef".replace("" + one, "");
+                    fitting(of(10, 1, "p0 p0 p0 p0 p0 p0", two + "?3", "0" + others), 0, 1);
+                }
+            }
+        }
         // all that was felt, not some of it
         fitting(of(10, 1, "p0 p0 p0", "ab?3 ac?3", "13ab 9ac"), 1);
         fitting(of(10, 1, "p0 p0 p0", "ab?3 ac?3", "13ab 13ac"), 3);

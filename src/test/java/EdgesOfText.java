@@ -576,6 +576,20 @@ final class EdgesOfText {
             Check.due("fits()", x.fits(), 1);
             Check.due("three images", x.image() + x.image() + x.image(), 3);
         }
+        // nothing of any earlier text is left, however many there were, good or faulty
+        String rich = Texts.of(Texts.head(60, 9, 30, 100), "t9 t9 t9 h9 h9 h9", "ab9 cd-9 ef?9 ac?9 bd?9 be?9", "0 1a 2b 200abcdef");
+        for (int good = 0; good <= 4; good++) {
+            for (int faulty = 0; faulty <= 3; faulty++) {
+                ColdPlunge x = new ColdPlunge();
+                for (int i = 0; i < good; i++) {
+                    Check.due("a rich one", Check.tell(x, rich), 6);
+                }
+                for (int i = 0; i < faulty; i++) {
+                    Check.due("a faulty one", Check.tell(x, rich + ";felt 0"), -1);
+                }
+                plainAnew(x);
+            }
+        }
         // what can be undone begins anew, too
         ColdPlunge x = Check.of(THREE);
         for (int i = 0; i < 8; i++) {
@@ -587,6 +601,26 @@ final class EdgesOfText {
         Check.due("undo()", x.undo(), true);
         Check.refused(x, "undo()", x.undo(), 6);
         Check.due("company()", x.company(), 0);
+    }
+
+    private static void plainAnew(ColdPlunge x) {
+        String plain = Texts.of(HEAD, "p1 p1 p1 p1 p1 p1");
+        Check.due("a plain one", Check.tell(x, plain), 6);
+        int[] sizes = {0, 0, 0, 0, 6};
+        for (int what = 0; what < 14; what++) {
+            Check.due("size(" + what + ")", x.size(what), what < 5 ? sizes[what] : 0);
+        }
+        for (int b = 0; b < 6; b++) {
+            int[] due = {0, 1, 1, 0, 0, 0, 0};
+            for (int what = 0; what < 7; what++) {
+                Check.due("bather(" + b + ", " + what + ")", x.bather(b, what), due[what]);
+            }
+        }
+        Check.due("warmth(63)", x.warmth(63), 0);
+        Check.due("fits()", x.fits(), 1);
+        Check.due("judge()", x.judge(), -2);
+        // each two can be told of again
+        Check.due("all pairs", Check.tell(x, plain + ";knows a b by 1;knows c d by 1;knows e f by 1;foes a c by 1;foes b d by 1;unsure b e by 1"), 6);
     }
 
     private static void plungeRefused() {
@@ -612,8 +646,9 @@ final class EdgesOfText {
         Sentences.ofPromise(3, "4 (the PLUNGE stays).");
         String[] texts = {"", "!", "plunge warm 61", HEAD, "bather a plain bears 0", THREE + ";bather a plain bears 0",
             THREE + ";knows a d by 1", SIX + ";bather g plain bears 0"};
+        Edge.Maker[] makers = {Edge::one, Edge::four, Edge::six, EdgesOfText::secondText, EdgesOfText::thirdText};
         for (String text : texts) {
-            for (Edge.Maker maker : Edge.all()) {
+            for (Edge.Maker maker : makers) {
                 ColdPlunge y = maker.make();
                 y.plunge(20);
                 String before = Edge.picture(y).replaceFirst("(\\d+ ){14}\\S+ \\d+", "");
@@ -630,6 +665,27 @@ final class EdgesOfText {
                 Check.due("back(0)", y.back(0), true);
             }
         }
+    }
+
+    /** A plunge that another one stood ahead of; one act can be undone, and there is an image. */
+    private static ColdPlunge secondText() {
+        ColdPlunge x = Edge.six();
+        x.plunge(20);
+        Check.tell(x, Texts.of(Texts.head(9, 3, 4, 70), "t3 h7 p9", "ab4 ac?3", "9ac 13ab"));
+        x.come(1);
+        x.image();
+        x.feed(1, 2, 3, 4, 5);
+        return x;
+    }
+
+    private static ColdPlunge thirdText() {
+        ColdPlunge x = secondText();
+        x.plunge(20);
+        Check.tell(x, Texts.of(Texts.head(8, 2, 5, 60), "h3 t7 p9 p1", "bc4 ac-3 bd?1", "9bc 12ab"));
+        x.come(3);
+        x.image();
+        x.feed(1, 2, 3, 4, 5);
+        return x;
     }
 
     private static void fault() {

@@ -230,6 +230,14 @@ final class EdgesOfVisitors {
         }
         // by 0 a comes at the draws below 50: of 74 24 52 90 41 9 at three, and gets out each time
         Check.due("when he comes", of(0, 0, 0, 50, "p1", "").waits(0, 6), 3);
+        ColdPlunge bySeed = of(0, 0, 0, 50, "p1", "");
+        int[] seeds = {0, 74, 65536, 0, 872, 873, 74, 1};
+        int[] first = {0, 1, 1, 0, 0, 1, 1, 1};
+        for (int i = 0; i < seeds.length; i++) {
+            Check.due("one morning by " + seeds[i], bySeed.waits(seeds[i], 1), first[i]);
+        }
+        Check.due("five by the draw of 0", bySeed.waits(74, 5), 3);
+        Check.due("six by 0 again", bySeed.waits(0, 6), 3);
         Check.due("size(10) is of the bath alone", one.size(10), 0);
 
         Sentences.ofPromise(55, "NONE: 1 (no PLUNGE);");
