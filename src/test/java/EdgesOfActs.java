@@ -269,7 +269,7 @@ final class EdgesOfActs {
         Check.due("size(5)", x.size(5), 3);
         Check.due("size(9)", x.size(9), 1);
         Check.due("company()", x.company(), 0);
-        // the one who knows five introduces each two of them: ten, and the first is kept too
+        // the one who knows five introduces each two of them: ten
         ColdPlunge star = of(0, 0, SIX_FREE, "fa1 fb1 fc1 fd1 fe1");
         int so = 0;
         for (int b = 0; b < 5; b++) {

@@ -353,6 +353,7 @@ final class EdgesOfTold {
 
     /** An object stands 512 calls, and the last is answered as the first. */
     private static void manyCalls() {
+        Check.part("at most 512 calls");
         ColdPlunge x = of(0, 0, "p1 p0", "");
         int minutes = 0;
         for (int calls = 20; calls + 3 <= 512; calls += 3) {
