@@ -1367,7 +1367,7 @@ public final class ColdPlunge {
                 for (int k = 0; k < MOST_BATHERS; k++) {
                     rows[k] = 0;
                 }
-                if (putFrom(bath, 0, 0, many)) {
+                if (putFrom(bath, rows, 0, 0, many)) {
                     return many;
                 }
             }
@@ -1384,13 +1384,13 @@ public final class ColdPlunge {
             return NOTHING;
         }
 
-        private boolean putFrom(Bath bath, int b, int used, int many) {
+        private static boolean putFrom(Bath bath, int[] rows, int b, int used, int many) {
             if (b >= bath.told.bathers) {
-                return areSnug(bath, used);
+                return areSnug(bath, rows, used);
             }
-            for (int k = 0; k <= used && k < many; k++) {
+            for (int k = 0; k <= used && k < many && k < rows.length; k++) {
                 rows[k] |= 1 << b;
-                if (putFrom(bath, b + 1, Math.max(used, k + 1), many)) {
+                if (putFrom(bath, rows, b + 1, Math.max(used, k + 1), many)) {
                     return true;
                 }
                 rows[k] &= ~(1 << b);
@@ -1398,8 +1398,8 @@ public final class ColdPlunge {
             return false;
         }
 
-        private boolean areSnug(Bath bath, int used) {
-            for (int k = 0; k < used; k++) {
+        private static boolean areSnug(Bath bath, int[] rows, int used) {
+            for (int k = 0; k < used && k < rows.length; k++) {
                 if (!bath.isSnug(rows[k])) {
                     return false;
                 }

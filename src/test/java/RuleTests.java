@@ -6,6 +6,7 @@ import java.lang.reflect.Method;
 import java.lang.reflect.Modifier;
 import java.nio.file.Files;
 import java.nio.file.Path;
+import java.util.NoSuchElementException;
 import java.util.Set;
 import java.util.TreeSet;
 import java.util.regex.Matcher;
@@ -22,6 +23,9 @@ public final class RuleTests {
 
     public static void main(String[] args) throws IOException {
         face();
+        constant();
+        thrown();
+        parts();
         names();
         words();
         lengths();
@@ -64,6 +68,55 @@ public final class RuleTests {
             Check.due("field " + field, open, field.getName().equals("NONE"));
         }
         Check.due("final", Modifier.isFinal(ColdPlunge.class.getModifiers()), true);
+    }
+
+    /** `NONE = -1`, as the face writes it. */
+    private static void constant() throws IOException {
+        Check.part("the constant");
+        Check.due("NONE", ColdPlunge.NONE, -1);
+        boolean written = Files.readString(DOCUMENT).contains("public static final int NONE = -1;");
+        Check.due("the document writes it so", written, true);
+        Field[] open = ColdPlunge.class.getFields();
+        Check.due("public constants", open.length, 1);
+        for (Field field : open) {
+            int modifiers = field.getModifiers();
+            Check.due(field + " is a constant", Modifier.isStatic(modifiers) && Modifier.isFinal(modifiers), true);
+            Check.due(field + " is an int", field.getType() == int.class, true);
+        }
+    }
+
+    /** Only led() says that it throws, and only what the face says. */
+    private static void thrown() {
+        Check.part("what the face throws");
+        for (Method method : ColdPlunge.class.getDeclaredMethods()) {
+            Class<?>[] thrown = method.getExceptionTypes();
+            boolean led = method.getName().equals("led");
+            Check.due("exceptions of " + method.getName(), thrown.length, led ? 1 : 0);
+            if (led && thrown.length == 1) {
+                Check.due("that of led", thrown[0] == NoSuchElementException.class, true);
+            }
+        }
+    }
+
+    /** The calls stand in the document's order, each part under the line that the interface says ahead of it. */
+    private static void parts() throws IOException {
+        Check.part("the parts of the interface");
+        String document = Files.readString(DOCUMENT);
+        StringBuilder due = new StringBuilder();
+        Matcher m = Pattern.compile("Ahead of the calls ([^\n]*) the interface says: ([^\n]*)\\.").matcher(document);
+        while (m.find()) {
+            due.append("// ").append(m.group(2)).append('\n').append(m.group(1).replaceAll("[`,]", "").replace(' ', '\n')).append('\n');
+        }
+        StringBuilder got = new StringBuilder();
+        for (String line : Files.readAllLines(FILE)) {
+            Matcher call = Pattern.compile(" {4}public (?:int|long|boolean) (\\w+)\\(.*").matcher(line);
+            if (call.matches()) {
+                got.append(call.group(1)).append('\n');
+            } else if (due.indexOf(line.trim() + "\n") >= 0 && line.startsWith("    // ----")) {
+                got.append(line.trim()).append('\n');
+            }
+        }
+        Check.due("the calls and parts in their order", got.toString().equals(due.toString()), true);
     }
 
     private static void names() {
