@@ -210,7 +210,9 @@ public final class ReadmeTests {
         Check.refused(x, "no room", x.image(), ColdPlunge.NONE, 3);
         x.feed(0, 0, 0, 0, 0);
         Check.refused(x, "a fault", x.plunge(20), ColdPlunge.NONE, 4);
-        Check.due("it empties the tape", x.size(13), 0);
+        Check.due("the text is off the tape", x.size(13), 0);
+        Check.due("fault() tells of it", x.fault(), 1);
+        Check.due("where() tells of it", x.where(), 0);
         ColdPlunge y = new ColdPlunge();
         Check.refused(y, "no plunge", y.company(), ColdPlunge.NONE, 1);
     }
@@ -230,7 +232,7 @@ public final class ReadmeTests {
     }
 
     private static void neverRefused() {
-        Check.part("what can't be refused");
+        Check.part("what leaves trouble() alone");
         ColdPlunge x = new ColdPlunge();
         x.plunge(-1);
         Check.due("trouble()", x.trouble(), 2);
@@ -240,9 +242,12 @@ public final class ReadmeTests {
         Check.due("feed() without room", x.feed(0, 0, 0, 0, 0), ColdPlunge.NONE);
         x.fault();
         x.where();
-        x.size(99);
-        Check.led(x, 0);
+        Check.due("size() of what it doesn't know", x.size(99), ColdPlunge.NONE);
+        Check.due("led() throws", Check.led(x, 0), -1000);
         Check.due("trouble() then", x.trouble(), 2);
+        ColdPlunge y = Check.of("plunge warm 5 chill 0 ice 0 visits 0;bather a plain bears 0;bather b plain bears 0;foes a b by 2");
+        Check.refused(y, "ties() of foes by 2", y.ties(0, 1), -2, 0);
+        Check.refused(y, "swim() of one near alone", y.swim(0, true, false, false), -2, 0);
     }
 
     // ---- what it names
